@@ -81,7 +81,7 @@ final class Due {
     return x;
   }
 
-  /** The rest of the tokens, as text: kind and category letters are left out where a sign tells them. */
+  /** The rest of the tokens, as text: kind and number, category, place. */
   static String rest(SignCategories x) {
     StringBuilder text = new StringBuilder();
     for (int i = x.next(); i >= 0; i = x.next()) {

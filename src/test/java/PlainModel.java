@@ -49,12 +49,12 @@ final class PlainModel {
 
   int category(int s, int c, boolean global) {
     if (!sign(s) || c < 0 || c > 15) return -2;
+    // Without what they would take back, the ends of all open groups leave a global one as it is.
     for (Map<Integer, Integer> group : undo) {
       if (global) group.remove(s);
     }
     if (!global && !undo.isEmpty()) undo.get(undo.size() - 1).putIfAbsent(s, categories[s]);
     categories[s] = c;
-    // A group that is open takes back to what was so before it, which a global one has replaced.
     return 1;
   }
 

@@ -473,6 +473,9 @@ public final class PromisesTest {
     x = Due.reading("\\ x");
     x.next();
     due.is("state() behind a blank", x.state(), 2);
+    x = Due.reading("\\\0a");
+    due.rest(x, "name1/0@0 sign97/11@2 sign32/10@3");
+    due.name(x, 1, "\0");
     // The empty name.
     x = Due.reading("\\", "a\\", "\\");
     x.endSign(-1);
@@ -524,6 +527,7 @@ public final class PromisesTest {
         "sign255/12@4 sign9/12@8 sign175/12@12 sign111/11@16 sign48/12@19 sign122/11@20 sign48/12@23"
             + " sign32/10@24 sign48/12@27 sign32/10@28");
     due.rest(Due.reading("^^\u0080^^\u007f"), "sign94/7@0 sign94/7@1 sign128/12@2 sign63/12@3 sign32/10@6");
+    due.rest(Due.reading("^^\0^^\1"), "sign64/12@0 sign65/11@3 sign32/10@6");
     // With too little behind it.
     SignCategories x = Due.reading("^", "^^", "^^4");
     x.endSign(-1);
@@ -676,6 +680,12 @@ public final class PromisesTest {
     x.close();
     due.is("raw()", x.raw(), 2);
     due.token(x, 2, 0, 'c', 12, 0, 1, 0);
+    // Sign 0 is a sign like all others.
+    x = Due.reading("\0\u00ff");
+    due.is("raw()", x.raw(), 0);
+    due.token(x, 0, 0, 0, 12, 0, 0, 0);
+    due.is("raw()", x.raw(), 1);
+    due.token(x, 1, 0, 255, 12, 0, 0, 1);
     // The place of a raw sign does not disturb what is told from there on.
     x = Due.reading("^^^41");
     x.raw();
