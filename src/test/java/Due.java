@@ -2,12 +2,20 @@
 final class Due {
   private int wrong = 0;
   private int asked = 0;
+  private String words = "";
+
+  /** A test of one sentence of the document: what is wrong in it is told with the sentence's words. */
+  void sentence(String of, Runnable test) {
+    words = "\"" + of + "\": ";
+    test.run();
+    words = "";
+  }
 
   void is(String what, long got, long want) {
     asked++;
     if (got != want) {
       wrong++;
-      System.out.println(what + " answered " + got + ", due is " + want);
+      System.out.println(words + what + " answered " + got + ", due is " + want);
     }
   }
 
@@ -81,10 +89,32 @@ final class Due {
     return x;
   }
 
+  /**
+   * An object that has read as many names of one sign each, beside PAR; what stands behind them is in lines of their
+   * own from line 3 on, without an end sign, and is to be read.
+   */
+  static SignCategories withNames(int names, String... behind) {
+    StringBuilder signs = new StringBuilder();
+    for (int k = 0; k < names; k++) {
+      signs.append('\\').append((char) (k < 128 ? 128 + k : 33 + k - 128));
+    }
+    SignCategories x = reading(signs.substring(0, 120), signs.substring(120, 240), signs.substring(240));
+    for (String line : behind) {
+      line(x, 0, line);
+    }
+    x.endSign(-1);
+    for (int k = 0; k < names; k++) {
+      x.next();
+    }
+    return x;
+  }
+
   /** The rest of the tokens, as text: kind and number, category, place. */
   static String rest(SignCategories x) {
     StringBuilder text = new StringBuilder();
-    for (int i = x.next(); i >= 0; i = x.next()) {
+    int most = 600;
+    for (int i = x.next(); i >= 0 && most > 0; i = x.next()) {
+      most--;
       if (text.length() > 0) {
         text.append(' ');
       }
@@ -95,11 +125,14 @@ final class Due {
   }
 
   void rest(SignCategories x, String want) {
-    String got = rest(x);
+    same("what next() tells", rest(x), want);
+  }
+
+  void same(String what, String got, String want) {
     asked++;
     if (!got.equals(want)) {
       wrong++;
-      System.out.println("tokens are " + got + ", due are " + want);
+      System.out.println(words + what + " is " + got + ", due is " + want);
     }
   }
 

@@ -885,10 +885,9 @@ public final class PromisesTest {
       due.is("check()", x.check(), 1);
     }
     // What it says holds: all names differ, and each token's name is there.
+    java.util.Set<String> texts = new java.util.HashSet<>();
     for (int a = 0; a < x.count(1); a++) {
-      for (int b = 0; b < a; b++) {
-        due.holds("names " + a + " and " + b + " differ", !text(x, a).equals(text(x, b)));
-      }
+      due.holds("name " + a + " differs from those before it", texts.add(text(x, a)));
     }
     for (int i = 0; i < x.count(0); i++) {
       due.holds("name of token " + i, x.token(i, 0) != 1 || x.token(i, 1) >= 0 && x.token(i, 1) < x.count(1));
@@ -898,8 +897,10 @@ public final class PromisesTest {
 
   private static String text(SignCategories x, int name) {
     StringBuilder text = new StringBuilder();
-    for (int k = 0; x.name(name, k) >= 0; k++) {
-      text.append((char) x.name(name, k));
+    int sign = x.name(name, 0);
+    for (int k = 1; sign >= 0 && k <= 41; k++) {
+      text.append((char) sign);
+      sign = x.name(name, k);
     }
     return text.toString();
   }
