@@ -153,14 +153,14 @@ public final class TermsEdgesTest {
   private static void otherFilesAsTheyWere() {
     SignCategories x = new SignCategories();
     x.file();
-    Due.file(x, "ab");
+    Due.file(x, "yz");
     for (int i = 0; i < 30; i++) {
       x.line(0);
     }
     Due.add(x, 0, FULL);
     due.is("add(0, .., 8) to a full line", x.add(0, -1L, 8), -4);
     x.open(1);
-    due.rest(x, "sign97/11@0 sign98/11@1 sign32/10@2");
+    due.rest(x, "sign121/11@0 sign122/11@1 sign32/10@2");
   }
 
   private static void levels() {
